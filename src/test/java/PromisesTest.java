@@ -16,6 +16,7 @@ public final class PromisesTest {
         inputs();
         constants();
         binaries();
+        bitwise();
         sums();
         products();
         shifts();
@@ -150,6 +151,19 @@ public final class PromisesTest {
         check.fails("no operation in a full one", ARGUMENT, () -> full().binary(6, 0, 24));
     }
 
+    private static void bitwise() {
+        DemandedBits d = new DemandedBits();
+        // By hexadecimal digits, from the left, U being unknown: x is 0 0 0 F F F U U, y is 0 F U 0 F U 0 F.
+        int x = partly(d, 0x000FFF00, 0x000000FF);
+        int y = partly(d, 0x0F00F00F, 0x00F00F00);
+        facts(d, d.binary(DemandedBits.AND, x, y), 0xFFFF00F0, 0x0000F000);
+        facts(d, d.binary(DemandedBits.AND, y, x), 0xFFFF00F0, 0x0000F000);
+        facts(d, d.binary(DemandedBits.OR, x, y), 0xF0000000, 0x0F0FFF0F);
+        facts(d, d.binary(DemandedBits.OR, y, x), 0xF0000000, 0x0F0FFF0F);
+        facts(d, d.binary(DemandedBits.XOR, x, y), 0xF000F000, 0x0F0F0000);
+        facts(d, d.binary(DemandedBits.XOR, y, x), 0xF000F000, 0x0F0F0000);
+    }
+
     private static void sums() {
         DemandedBits d = new DemandedBits();
         int x = partly(d, 0x3, 0x8);
@@ -221,6 +235,10 @@ public final class PromisesTest {
         facts(d, 4, 0x7FFFFFFF, 0);
         facts(d, 6, ~1, 0);
         facts(d, 7, 0, 0);
+        int partly = partly(d, 0x80000030, 0x00000F00);
+        facts(d, d.shift(DemandedBits.LEFT, partly, 4), ~0xF300, 0x300);
+        facts(d, d.shift(DemandedBits.RIGHT, partly, 4), ~0xF80000F3, 0xF8000003);
+        facts(d, d.shift(DemandedBits.LOGICAL, partly, 4), ~0x080000F3, 0x08000003);
         d.run(1, 0x80000123, 0, 0);
         int[] due = {0x80000123, 0x1230, 0xF8000012, 0x08000012, LOWEST_INT, -1, 1, 0x80000123};
         for (int v = 0; v < due.length; v++) {
