@@ -49,7 +49,8 @@ final class Model {
             int[][] next = new int[facts.length][];
             for (int v = 0; v < facts.length; v++) {
                 Value value = values.get(v);
-                next[v] = value.kind == Kind.LOOP ? lost(facts[v], facts[value.x], facts[value.y]) : factsOf(value, facts);
+                next[v] = value.kind == Kind.LOOP
+                        ? lost(facts[v], facts[value.x], facts[value.y]) : factsOf(value, facts);
             }
             if (Arrays.deepEquals(facts, next)) {
                 return facts;

@@ -1,16 +1,5 @@
 /** Each promise by hand: ordinary inputs, the edges that the document names, and wrong inputs. */
-public final class PromisesTest {
-    private static final int ZEROS = 0;
-    private static final int ONES = 1;
-    private static final int DEMANDED = 2;
-    private static final int WIDTH = 3;
-    private static final int SHORTER = 4;
-    private static final int LOWEST_INT = Integer.MIN_VALUE;
-    private static final Class<IllegalArgumentException> ARGUMENT = IllegalArgumentException.class;
-    private static final Class<IllegalStateException> STATE = IllegalStateException.class;
-    private static final Class<IndexOutOfBoundsException> INDEX = IndexOutOfBoundsException.class;
-    private static final Check check = new Check();
-
+public final class PromisesTest extends ByHand {
     public static void main(String[] args) {
         newObject();
         inputs();
@@ -41,38 +30,6 @@ public final class PromisesTest {
         valuesOfRuns();
         fullFunctions();
         check.end();
-    }
-
-    /** Two unknown inputs, values 0 and 1, and a constant, value 2. */
-    private static DemandedBits withConstant(int c) {
-        DemandedBits d = new DemandedBits();
-        d.input(0);
-        d.input(1);
-        d.constant(c);
-        return d;
-    }
-
-    private static DemandedBits full() {
-        DemandedBits d = new DemandedBits();
-        for (int c = 0; c < 24; c++) {
-            d.constant(c);
-        }
-        return d;
-    }
-
-    /** A value whose facts are these: 0 and 1 are known, the bits set in unknown are not. */
-    private static int partly(DemandedBits d, int ones, int unknown) {
-        int free = d.binary(DemandedBits.AND, d.input(2), d.constant(unknown));
-        return d.binary(DemandedBits.OR, free, d.constant(ones));
-    }
-
-    private static void facts(DemandedBits d, int value, int zeros, int ones) {
-        check.same("zeros of " + value, zeros, d.bits(value, ZEROS));
-        check.same("ones of " + value, ones, d.bits(value, ONES));
-    }
-
-    private static void demanded(DemandedBits d, int value, int due) {
-        check.same("demanded of " + value, due, d.bits(value, DEMANDED));
     }
 
     // Promise 1.
@@ -113,11 +70,11 @@ public final class PromisesTest {
     // Promise 3.
     private static void constants() {
         DemandedBits d = new DemandedBits();
-        int[] some = {0, 1, -1, LOWEST_INT, Integer.MAX_VALUE};
+        int[] some = {0, 1, -1, MIN, MAX};
         for (int i = 0; i < some.length; i++) {
             check.same("number of constant", i, d.constant(some[i]));
             facts(d, i, ~some[i], some[i]);
-            check.same("a constant is not replaced", DemandedBits.NONE, d.replaced(i));
+            check.same("a constant is not replaced", NONE, d.replaced(i));
         }
         d.run(2, 0, 0, 0);
         for (int i = 0; i < some.length; i++) {
@@ -141,8 +98,8 @@ public final class PromisesTest {
         for (int operation = 0; operation < 6; operation++) {
             check.same("number of binary", 2 + operation, d.binary(operation, 0, 1));
         }
-        d.run(1, LOWEST_INT + 5, -3, 0);
-        int[] due = {Integer.MIN_VALUE + 2, LOWEST_INT + 8, LOWEST_INT - 15, LOWEST_INT + 5, -3, Integer.MAX_VALUE - 7};
+        d.run(1, MIN + 5, -3, 0);
+        int[] due = {MIN + 2, MIN + 8, MIN - 15, MIN + 5, -3, MAX - 7};
         for (int operation = 0; operation < 6; operation++) {
             check.same("operation " + operation, due[operation], d.value(2 + operation, false));
         }
@@ -156,12 +113,12 @@ public final class PromisesTest {
         // By hexadecimal digits, from the left, U being unknown: x is 0 0 0 F F F U U, y is 0 F U 0 F U 0 F.
         int x = partly(d, 0x000FFF00, 0x000000FF);
         int y = partly(d, 0x0F00F00F, 0x00F00F00);
-        facts(d, d.binary(DemandedBits.AND, x, y), 0xFFFF00F0, 0x0000F000);
-        facts(d, d.binary(DemandedBits.AND, y, x), 0xFFFF00F0, 0x0000F000);
-        facts(d, d.binary(DemandedBits.OR, x, y), 0xF0000000, 0x0F0FFF0F);
-        facts(d, d.binary(DemandedBits.OR, y, x), 0xF0000000, 0x0F0FFF0F);
-        facts(d, d.binary(DemandedBits.XOR, x, y), 0xF000F000, 0x0F0F0000);
-        facts(d, d.binary(DemandedBits.XOR, y, x), 0xF000F000, 0x0F0F0000);
+        facts(d, d.binary(AND, x, y), 0xFFFF00F0, 0x0000F000);
+        facts(d, d.binary(AND, y, x), 0xFFFF00F0, 0x0000F000);
+        facts(d, d.binary(OR, x, y), 0xF0000000, 0x0F0FFF0F);
+        facts(d, d.binary(OR, y, x), 0xF0000000, 0x0F0FFF0F);
+        facts(d, d.binary(XOR, x, y), 0xF000F000, 0x0F0F0000);
+        facts(d, d.binary(XOR, y, x), 0xF000F000, 0x0F0F0000);
     }
 
     private static void sums() {
@@ -169,47 +126,47 @@ public final class PromisesTest {
         int x = partly(d, 0x3, 0x8);
         int y = partly(d, 0x1, 0x20);
         // 0011 + 0001 is 0100, and bits 3 and 5 are free.
-        facts(d, d.binary(DemandedBits.ADD, x, y), ~0x2C, 0x4);
+        facts(d, d.binary(ADD, x, y), ~0x2C, 0x4);
         DemandedBits e = new DemandedBits();
         int low = partly(e, 0x5, 0xF0);
         int three = e.constant(3);
         // 0101 + 0011 is 1000 with no carry; the free bits 4 .. 7 take nothing in.
-        facts(e, e.binary(DemandedBits.ADD, low, three), ~0xF8, 0x8);
+        facts(e, e.binary(ADD, low, three), ~0xF8, 0x8);
         // 0101 - 0011 is 0010, and the free bits lend nothing.
-        facts(e, e.binary(DemandedBits.SUB, low, three), ~0xF2, 0x2);
+        facts(e, e.binary(SUB, low, three), ~0xF2, 0x2);
         // 0011 - 0101 is 1110 and borrows, so that all above the free bits is 1.
-        facts(e, e.binary(DemandedBits.SUB, three, low), 0x1, 0xFFFFFF0E);
+        facts(e, e.binary(SUB, three, low), 0x1, 0xFFFFFF0E);
         DemandedBits f = withConstant(1);
-        int itself = f.binary(DemandedBits.SUB, 0, 0);
+        int itself = f.binary(SUB, 0, 0);
         facts(f, itself, 0, 0);
-        int and = f.binary(DemandedBits.AND, 0, 2);
-        facts(f, f.binary(DemandedBits.ADD, and, and), ~0x3, 0);
-        int odd = f.binary(DemandedBits.OR, 0, 2);
-        facts(f, f.binary(DemandedBits.ADD, odd, odd), 0x1, 0);
-        facts(f, f.binary(DemandedBits.ADD, f.constant(-1), 2), -1, 0);
-        facts(f, f.binary(DemandedBits.XOR, odd, 2), 0x1, 0);
-        facts(f, f.binary(DemandedBits.XOR, and, 2), ~0x1, 0);
-        facts(f, f.binary(DemandedBits.XOR, and, f.constant(6)), ~0x7, 0x6);
+        int and = f.binary(AND, 0, 2);
+        facts(f, f.binary(ADD, and, and), ~0x3, 0);
+        int odd = f.binary(OR, 0, 2);
+        facts(f, f.binary(ADD, odd, odd), 0x1, 0);
+        facts(f, f.binary(ADD, f.constant(-1), 2), -1, 0);
+        facts(f, f.binary(XOR, odd, 2), 0x1, 0);
+        facts(f, f.binary(XOR, and, 2), ~0x1, 0);
+        facts(f, f.binary(XOR, and, f.constant(6)), ~0x7, 0x6);
     }
 
     private static void products() {
         DemandedBits d = withConstant(0);
-        facts(d, d.binary(DemandedBits.MUL, 0, 1), 0, 0);
-        facts(d, d.binary(DemandedBits.MUL, 0, 2), -1, 0);
+        facts(d, d.binary(MUL, 0, 1), 0, 0);
+        facts(d, d.binary(MUL, 0, 2), -1, 0);
         int low = partly(d, 0x5, ~0xF);
         int seven = d.constant(7);
         // 5 * 7 is 35, which ends in 0011.
-        facts(d, d.binary(DemandedBits.MUL, low, seven), 0xC, 0x3);
-        int far = d.shift(DemandedBits.LEFT, 0, 20);
-        int also = d.shift(DemandedBits.LEFT, 1, 11);
-        facts(d, d.binary(DemandedBits.MUL, far, also), 0x7FFFFFFF, 0);
-        facts(d, d.binary(DemandedBits.MUL, far, far), -1, 0);
+        facts(d, d.binary(MUL, low, seven), 0xC, 0x3);
+        int far = d.shift(LEFT, 0, 20);
+        int also = d.shift(LEFT, 1, 11);
+        facts(d, d.binary(MUL, far, also), 0x7FFFFFFF, 0);
+        facts(d, d.binary(MUL, far, far), -1, 0);
         DemandedBits e = withConstant(0x10008);
         // The lowest three bits of both are known, and the zeros of both make six.
         int x = partly(e, 0x0, ~0x7);
-        facts(e, e.binary(DemandedBits.MUL, x, 2), 0x3F, 0);
-        facts(e, e.binary(DemandedBits.MUL, 2, 2), ~0x100040, 0x100040);
-        facts(e, e.binary(DemandedBits.MUL, e.constant(-1), e.constant(-1)), ~1, 1);
+        facts(e, e.binary(MUL, x, 2), 0x3F, 0);
+        facts(e, e.binary(MUL, 2, 2), ~0x100040, 0x100040);
+        facts(e, e.binary(MUL, e.constant(-1), e.constant(-1)), ~1, 1);
     }
 
     // Promise 5.
@@ -222,13 +179,13 @@ public final class PromisesTest {
         check.fails("distance 32", ARGUMENT, () -> d.shift(0, 5, 32));
         check.fails("x -1", INDEX, () -> d.shift(1, -1, 0));
         check.fails("x is itself", INDEX, () -> d.shift(2, 1, 31));
-        check.same("number of shift", 1, d.shift(DemandedBits.LEFT, 0, 4));
-        d.shift(DemandedBits.RIGHT, 0, 4);
-        d.shift(DemandedBits.LOGICAL, 0, 4);
-        d.shift(DemandedBits.LEFT, 0, 31);
-        d.shift(DemandedBits.RIGHT, 0, 31);
-        d.shift(DemandedBits.LOGICAL, 0, 31);
-        d.shift(DemandedBits.LEFT, 0, 0);
+        check.same("number of shift", 1, d.shift(LEFT, 0, 4));
+        d.shift(RIGHT, 0, 4);
+        d.shift(LOGICAL, 0, 4);
+        d.shift(LEFT, 0, 31);
+        d.shift(RIGHT, 0, 31);
+        d.shift(LOGICAL, 0, 31);
+        d.shift(LEFT, 0, 0);
         facts(d, 1, 0xF, 0);
         facts(d, 2, 0, 0);
         facts(d, 3, 0xF0000000, 0);
@@ -236,11 +193,11 @@ public final class PromisesTest {
         facts(d, 6, ~1, 0);
         facts(d, 7, 0, 0);
         int partly = partly(d, 0x80000030, 0x00000F00);
-        facts(d, d.shift(DemandedBits.LEFT, partly, 4), ~0xF300, 0x300);
-        facts(d, d.shift(DemandedBits.RIGHT, partly, 4), ~0xF80000F3, 0xF8000003);
-        facts(d, d.shift(DemandedBits.LOGICAL, partly, 4), ~0x080000F3, 0x08000003);
+        facts(d, d.shift(LEFT, partly, 4), ~0xF300, 0x300);
+        facts(d, d.shift(RIGHT, partly, 4), ~0xF80000F3, 0xF8000003);
+        facts(d, d.shift(LOGICAL, partly, 4), ~0x080000F3, 0x08000003);
         d.run(1, 0x80000123, 0, 0);
-        int[] due = {0x80000123, 0x1230, 0xF8000012, 0x08000012, LOWEST_INT, -1, 1, 0x80000123};
+        int[] due = {0x80000123, 0x1230, 0xF8000012, 0x08000012, MIN, -1, 1, 0x80000123};
         for (int v = 0; v < due.length; v++) {
             check.same("shifted " + v, due[v], d.value(v, false));
         }
@@ -291,7 +248,7 @@ public final class PromisesTest {
         DemandedBits d = new DemandedBits();
         d.constant(1);
         int doubled = d.loop(0);
-        int next = d.shift(DemandedBits.LEFT, doubled, 1);
+        int next = d.shift(LEFT, doubled, 1);
         d.back(doubled, next);
         facts(d, doubled, 0, 0);
         facts(d, next, 1, 0);
@@ -307,7 +264,7 @@ public final class PromisesTest {
         int outer = f.loop(0);
         int inner = f.loop(outer);
         int four = f.constant(4);
-        int sum = f.binary(DemandedBits.ADD, inner, four);
+        int sum = f.binary(ADD, inner, four);
         f.back(inner, sum);
         f.back(outer, inner);
         facts(f, outer, 0x3, 0);
@@ -323,7 +280,7 @@ public final class PromisesTest {
         d.constant(0);
         d.loop(0);
         d.constant(3);
-        d.binary(DemandedBits.ADD, 1, 2);
+        d.binary(ADD, 1, 2);
         check.fails("no loop", ARGUMENT, () -> d.back(0, 1));
         check.fails("no loop but a sum", ARGUMENT, () -> d.back(3, 3));
         check.fails("loop -1", INDEX, () -> d.back(-1, 0));
@@ -348,13 +305,13 @@ public final class PromisesTest {
         check.fails("a result of nothing", INDEX, () -> d.result(0, 0));
         d.input(0);
         check.fails("value -1", INDEX, () -> d.result(-1, 0));
-        int[] masks = {0x1, 0x10, 0, LOWEST_INT};
+        int[] masks = {0x1, 0x10, 0, MIN};
         for (int r = 0; r < 4; r++) {
             check.same("number of result", r, d.result(0, masks[r]));
         }
         check.fails("a fifth result", STATE, () -> d.result(0, 1));
         check.fails("a fifth result of nothing", INDEX, () -> d.result(1, 1));
-        demanded(d, 0, LOWEST_INT | 0x11);
+        demanded(d, 0, MIN | 0x11);
         d.run(1, -1, 0, 0);
         for (int r = 0; r < 4; r++) {
             check.same("result", masks[r], d.observed(r, false));
@@ -371,7 +328,7 @@ public final class PromisesTest {
         check.fails("what 5", ARGUMENT, () -> d.bits(0, 5));
         check.fails("value -1", INDEX, () -> d.bits(-1, 0));
         check.fails("no value and no such bits", INDEX, () -> d.bits(1, 5));
-        int[] masks = {0, 0x80, 0x100, 0x8000, 0x10000, LOWEST_INT, 1};
+        int[] masks = {0, 0x80, 0x100, 0x8000, 0x10000, MIN, 1};
         int[] widths = {8, 8, 16, 16, 32, 32, 8};
         for (int i = 0; i < masks.length; i++) {
             DemandedBits e = new DemandedBits();
@@ -384,9 +341,9 @@ public final class PromisesTest {
     }
 
     private static void demandsOfSums() {
-        int[] masks = {0, 0x1, 0x48, LOWEST_INT};
+        int[] masks = {0, 0x1, 0x48, MIN};
         int[] upTo = {0, 0x1, 0x7F, -1};
-        for (int operation = DemandedBits.ADD; operation <= DemandedBits.MUL; operation++) {
+        for (int operation = ADD; operation <= MUL; operation++) {
             for (int i = 0; i < masks.length; i++) {
                 DemandedBits d = withConstant(0);
                 d.result(d.binary(operation, 0, 1), masks[i]);
@@ -396,61 +353,61 @@ public final class PromisesTest {
             }
         }
         DemandedBits d = withConstant(0);
-        d.result(d.binary(DemandedBits.XOR, 0, 1), 0x48);
+        d.result(d.binary(XOR, 0, 1), 0x48);
         demanded(d, 0, 0x48);
         demanded(d, 1, 0x48);
     }
 
     private static void demandsOfAndOr() {
         DemandedBits d = withConstant(0x0F);
-        d.result(d.binary(DemandedBits.AND, 0, 2), 0x3C);
+        d.result(d.binary(AND, 0, 2), 0x3C);
         demanded(d, 0, 0x0C);
         demanded(d, 2, 0x3C);
         DemandedBits e = withConstant(0x0F);
-        e.result(e.binary(DemandedBits.AND, 2, 0), 0x3C);
+        e.result(e.binary(AND, 2, 0), 0x3C);
         demanded(e, 2, 0x3C);
         demanded(e, 0, 0x0C);
         DemandedBits f = withConstant(0x0F);
-        f.result(f.binary(DemandedBits.OR, 0, 2), 0x3C);
+        f.result(f.binary(OR, 0, 2), 0x3C);
         demanded(f, 0, 0x30);
         demanded(f, 2, 0x3C);
         DemandedBits g = withConstant(0x0F);
-        g.result(g.binary(DemandedBits.OR, 2, 0), 0x3C);
+        g.result(g.binary(OR, 2, 0), 0x3C);
         demanded(g, 2, 0x3C);
         demanded(g, 0, 0x30);
         // Where both are known, it is y that is asked.
         DemandedBits h = new DemandedBits();
         h.constant(0x33);
         h.constant(0x55);
-        h.result(h.binary(DemandedBits.AND, 0, 1), 0xFF);
+        h.result(h.binary(AND, 0, 1), 0xFF);
         demanded(h, 0, 0x55);
         demanded(h, 1, 0x33 | 0xAA);
         DemandedBits i = new DemandedBits();
         i.constant(0x33);
         i.constant(0x55);
-        i.result(i.binary(DemandedBits.OR, 0, 1), 0xFF);
+        i.result(i.binary(OR, 0, 1), 0xFF);
         demanded(i, 0, 0xAA);
         demanded(i, 1, 0xCC | 0x55);
     }
 
     private static void demandsOfMoves() {
-        moved(DemandedBits.LEFT, 4, 0x8000001F, 0x08000001);
-        moved(DemandedBits.LEFT, 31, -1, 1);
-        moved(DemandedBits.LEFT, 0, 0x81, 0x81);
-        moved(DemandedBits.LOGICAL, 4, 0x18000001, 0x80000010);
-        moved(DemandedBits.LOGICAL, 4, 0xF0000000, 0);
-        moved(DemandedBits.LOGICAL, 31, 1, LOWEST_INT);
-        moved(DemandedBits.RIGHT, 4, 0x10000001, LOWEST_INT | 0x10);
-        moved(DemandedBits.RIGHT, 4, 0x08000000, LOWEST_INT);
-        moved(DemandedBits.RIGHT, 4, 0x04000000, 0x40000000);
-        moved(DemandedBits.RIGHT, 4, LOWEST_INT | 2, LOWEST_INT | 0x20);
-        moved(DemandedBits.RIGHT, 31, 0x100, LOWEST_INT);
-        moved(DemandedBits.RIGHT, 0, 0x40000000, 0x40000000);
-        moved(DemandedBits.RIGHT, 7, 0, 0);
+        moved(LEFT, 4, 0x8000001F, 0x08000001);
+        moved(LEFT, 31, -1, 1);
+        moved(LEFT, 0, 0x81, 0x81);
+        moved(LOGICAL, 4, 0x18000001, 0x80000010);
+        moved(LOGICAL, 4, 0xF0000000, 0);
+        moved(LOGICAL, 31, 1, MIN);
+        moved(RIGHT, 4, 0x10000001, MIN | 0x10);
+        moved(RIGHT, 4, 0x08000000, MIN);
+        moved(RIGHT, 4, 0x04000000, 0x40000000);
+        moved(RIGHT, 4, MIN | 2, MIN | 0x20);
+        moved(RIGHT, 31, 0x100, MIN);
+        moved(RIGHT, 0, 0x40000000, 0x40000000);
+        moved(RIGHT, 7, 0, 0);
         extended(false, 0x7F, 0x7F);
         extended(false, 0x80, 0x80);
         extended(false, 0x102, 0x82);
-        extended(false, LOWEST_INT, 0x80);
+        extended(false, MIN, 0x80);
         extended(false, 0, 0);
         extended(true, 0x7F80, 0x7F80);
         extended(true, 0x8000, 0x8000);
@@ -480,7 +437,7 @@ public final class PromisesTest {
     private static void demandsOfLoops() {
         DemandedBits d = withConstant(2);
         int loop = d.loop(0);
-        int next = d.shift(DemandedBits.LOGICAL, loop, 8);
+        int next = d.shift(LOGICAL, loop, 8);
         d.back(loop, next);
         d.result(loop, 0x1);
         demanded(d, next, 0x01010101);
@@ -493,7 +450,7 @@ public final class PromisesTest {
         demanded(d, next, 0);
         DemandedBits e = withConstant(2);
         int unseen = e.loop(0);
-        e.back(unseen, e.binary(DemandedBits.ADD, unseen, 1));
+        e.back(unseen, e.binary(ADD, unseen, 1));
         e.result(1, -1);
         demanded(e, unseen, 0);
         demanded(e, 0, 0);
@@ -504,23 +461,23 @@ public final class PromisesTest {
         DemandedBits d = withConstant(0xF0);
         check.fails("value -1", INDEX, () -> d.replaced(-1));
         check.fails("value 3", INDEX, () -> d.replaced(3));
-        check.same("without demanded bits", DemandedBits.FIXED, d.replaced(0));
-        check.same("a constant without demanded bits", DemandedBits.NONE, d.replaced(2));
-        int or = d.binary(DemandedBits.OR, 0, 2);
+        check.same("without demanded bits", FIXED, d.replaced(0));
+        check.same("a constant without demanded bits", NONE, d.replaced(2));
+        int or = d.binary(OR, 0, 2);
         d.result(or, 0x30);
-        check.same("all demanded bits known", DemandedBits.FIXED, d.replaced(or));
+        check.same("all demanded bits known", FIXED, d.replaced(or));
         d.result(or, 0x1);
-        check.same("one of them not known", DemandedBits.NONE, d.replaced(or));
-        check.same("an input with demanded bits", DemandedBits.NONE, d.replaced(0));
-        check.same("a constant with demanded bits", DemandedBits.NONE, d.replaced(2));
+        check.same("one of them not known", NONE, d.replaced(or));
+        check.same("an input with demanded bits", NONE, d.replaced(0));
+        check.same("a constant with demanded bits", NONE, d.replaced(2));
         DemandedBits e = withConstant(5);
         int loop = e.loop(2);
         e.result(loop, -1);
-        check.same("a loop that is known", DemandedBits.FIXED, e.replaced(loop));
+        check.same("a loop that is known", FIXED, e.replaced(loop));
         e.run(3, 9, 9, 9);
         check.same("its ones, all of them", 5, e.value(loop, true));
         e.back(loop, 0);
-        check.same("a loop that is not", DemandedBits.NONE, e.replaced(loop));
+        check.same("a loop that is not", NONE, e.replaced(loop));
     }
 
     private static int replacedOf(int operation, int c, int mask) {
@@ -530,29 +487,29 @@ public final class PromisesTest {
     }
 
     private static void replacedByX() {
-        check.same("and", 1, replacedOf(DemandedBits.AND, 0xFF, 0x81));
-        check.same("and with a 0", DemandedBits.NONE, replacedOf(DemandedBits.AND, 0xFF, 0x181));
-        check.same("or", 1, replacedOf(DemandedBits.OR, 0xFF, 0x100));
-        check.same("or with a 1", DemandedBits.NONE, replacedOf(DemandedBits.OR, 0xFF, 0x180));
-        int[] kinds = {DemandedBits.ADD, DemandedBits.SUB, DemandedBits.XOR};
+        check.same("and", 1, replacedOf(AND, 0xFF, 0x81));
+        check.same("and with a 0", NONE, replacedOf(AND, 0xFF, 0x181));
+        check.same("or", 1, replacedOf(OR, 0xFF, 0x100));
+        check.same("or with a 1", NONE, replacedOf(OR, 0xFF, 0x180));
+        int[] kinds = {ADD, SUB, XOR};
         for (int kind : kinds) {
             check.same("above all demanded", 1, replacedOf(kind, 0x100, 0x80));
-            check.same("a 1 at the highest", DemandedBits.NONE, replacedOf(kind, 0x100, 0x100));
-            check.same("a 1 below the highest", DemandedBits.NONE, replacedOf(kind, 0x40, 0x80));
+            check.same("a 1 at the highest", NONE, replacedOf(kind, 0x100, 0x100));
+            check.same("a 1 below the highest", NONE, replacedOf(kind, 0x40, 0x80));
             check.same("nothing", 1, replacedOf(kind, 0, -1));
         }
-        check.same("mul is not", DemandedBits.NONE, replacedOf(DemandedBits.MUL, 1, -1));
-        check.same("mul by what is above", DemandedBits.NONE, replacedOf(DemandedBits.MUL, 0x101, 1));
+        check.same("mul is not", NONE, replacedOf(MUL, 1, -1));
+        check.same("mul by what is above", NONE, replacedOf(MUL, 0x101, 1));
         DemandedBits d = withConstant(-1);
-        d.result(d.binary(DemandedBits.AND, 2, 0), 1);
-        check.same("x is the constant", DemandedBits.NONE, d.replaced(3));
+        d.result(d.binary(AND, 2, 0), 1);
+        check.same("x is the constant", NONE, d.replaced(3));
         DemandedBits e = withConstant(-1);
         int known = e.loop(2);
-        e.result(e.binary(DemandedBits.AND, 0, known), 1);
-        check.same("y is known but no constant", DemandedBits.NONE, e.replaced(4));
+        e.result(e.binary(AND, 0, known), 1);
+        check.same("y is known but no constant", NONE, e.replaced(4));
         int[] masks = {0x80, 0x100, 0x8000, 0x10000};
-        int[] narrow = {1, DemandedBits.NONE, DemandedBits.NONE, DemandedBits.NONE};
-        int[] wide = {1, 1, 1, DemandedBits.NONE};
+        int[] narrow = {1, NONE, NONE, NONE};
+        int[] wide = {1, 1, 1, NONE};
         for (int i = 0; i < masks.length; i++) {
             DemandedBits f = withConstant(0);
             f.result(f.extend(1, false), masks[i]);
@@ -563,15 +520,15 @@ public final class PromisesTest {
         DemandedBits g = new DemandedBits();
         g.constant(0);
         g.input(0);
-        g.result(g.shift(DemandedBits.LEFT, 1, 0), -1);
-        check.same("a shift by 0 is not", DemandedBits.NONE, g.replaced(2));
+        g.result(g.shift(LEFT, 1, 0), -1);
+        check.same("a shift by 0 is not", NONE, g.replaced(2));
     }
 
     // Promise 12.
     private static void liveOnes() {
         DemandedBits d = withConstant(0xF0);
         check.same("nothing observed", 0, d.live());
-        int or = d.binary(DemandedBits.OR, 0, 2);
+        int or = d.binary(OR, 0, 2);
         d.result(or, 0x30);
         check.same("a constant alone", 1, d.live());
         d.result(or, 0x1);
@@ -579,14 +536,14 @@ public final class PromisesTest {
         d.result(1, 0);
         check.same("nothing observed of it", 3, d.live());
         DemandedBits e = withConstant(0xF0);
-        e.result(e.binary(DemandedBits.OR, 0, 2), 0x1);
+        e.result(e.binary(OR, 0, 2), 0x1);
         check.same("x and its copy", 2, e.live());
     }
 
     private static void demandsInTheShorter() {
         DemandedBits d = withConstant(0xF0);
-        int or = d.binary(DemandedBits.OR, 0, 2);
-        int sum = d.binary(DemandedBits.ADD, or, 1);
+        int or = d.binary(OR, 0, 2);
+        int sum = d.binary(ADD, or, 1);
         d.result(sum, 0x8);
         // The function as it is asks y for what x does not settle; its copy of x asks for nothing of y.
         demanded(d, 2, 0xF);
@@ -598,12 +555,12 @@ public final class PromisesTest {
         // A copy asks for its own demanded bits there, which are fewer when who asked for them is gone.
         DemandedBits e = withConstant(0x100);
         int copy = e.extend(0, true);
-        int zero = e.binary(DemandedBits.SUB, e.constant(7), e.constant(7));
-        int gone = e.binary(DemandedBits.MUL, copy, zero);
+        int zero = e.binary(SUB, e.constant(7), e.constant(7));
+        int gone = e.binary(MUL, copy, zero);
         e.result(gone, 0xF);
         e.result(copy, 0x100);
         demanded(e, copy, 0x10F);
-        check.same("gone", DemandedBits.FIXED, e.replaced(gone));
+        check.same("gone", FIXED, e.replaced(gone));
         check.same("copy", 0, e.replaced(copy));
         check.same("of the copy", 0x100, e.bits(copy, SHORTER));
         check.same("of x", 0x100, e.bits(0, SHORTER));
@@ -630,7 +587,7 @@ public final class PromisesTest {
     private static void runsOfLoops() {
         DemandedBits d = withConstant(3);
         int sum = d.loop(0);
-        int next = d.binary(DemandedBits.ADD, sum, 2);
+        int next = d.binary(ADD, sum, 2);
         d.back(sum, next);
         int swapped = d.loop(1);
         int other = d.loop(2);
@@ -657,9 +614,9 @@ public final class PromisesTest {
 
     private static void runsOfTheShorter() {
         DemandedBits d = withConstant(0xFF);
-        int low = d.binary(DemandedBits.AND, 0, 2);
+        int low = d.binary(AND, 0, 2);
         int loop = d.loop(low);
-        int next = d.binary(DemandedBits.ADD, loop, low);
+        int next = d.binary(ADD, loop, low);
         d.back(loop, next);
         d.result(loop, 0xFF);
         check.same("low is x", 0, d.replaced(low));
@@ -698,7 +655,7 @@ public final class PromisesTest {
         check.fails("value -1", INDEX, () -> d.value(-1, false));
         check.fails("value 3", INDEX, () -> d.value(3, true));
         d.run(1, 8, 9, 10);
-        int and = d.binary(DemandedBits.AND, 0, 2);
+        int and = d.binary(AND, 0, 2);
         check.same("made later", 0, d.value(and, false));
         check.same("made later, in the shorter", 0, d.value(and, true));
         check.same("a constant", 0x0F, d.value(2, true));
@@ -709,7 +666,7 @@ public final class PromisesTest {
         check.same("in the shorter", 0x18, d.value(and, true));
     }
 
-    /** What throws changes nothing, also where there is no room. */
+    // What throws changes nothing, also where there is no room.
     private static void fullFunctions() {
         DemandedBits d = full();
         check.fails("a value too many", STATE, () -> d.constant(99));
