@@ -29,6 +29,7 @@ public final class DemandedBits {
     private static final int MOST_RESULTS = 4;
     private static final int MOST_ROUNDS = 50;
     private static final int INPUTS = 3;
+    private static final int SIGN = 1 << 31;
 
     // Every pass but the last one changes a bit of a value for good, and a value has 32 of them.
     private static final int MOST_PASSES = MOST_VALUES * 32 + 1;
@@ -459,7 +460,7 @@ public final class DemandedBits {
                 case SHIFT_LEFT:
                     return d >>> distance;
                 case SHIFT_RIGHT:
-                    return d << distance | signIf(d & Integer.MIN_VALUE >> distance, 31);
+                    return d << distance | signIf(d & SIGN >> distance, 31);
                 case SHIFT_LOGICAL:
                     return d << distance;
                 case BYTE:
