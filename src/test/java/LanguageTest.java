@@ -11,7 +11,7 @@ import java.util.List;
 import java.util.regex.Matcher;
 import java.util.regex.Pattern;
 
-/** The rules of LANGUAGE.md, as far as they can be seen from the program's text and its classes. */
+/** Those parts of LANGUAGE.md's rules that are easily seen from the program's text and its classes. */
 public final class LanguageTest {
     private static final Check check = new Check();
 
